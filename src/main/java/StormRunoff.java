@@ -12,9 +12,9 @@ public final class StormRunoff {
     private static final int NOTHING = -11, CAST = -12, PLACE = -13, SIZE = -14;
 
     private static final int HOURS = 30, RAIN_HOURS = 8, TOLD_HOURS = 12, PLACES = 5;
-    private static final int MOST_BASINS = 3, MOST_RAIN = 20, MOST_TOLD = 999, MOST_BY_HAND = 9999;
+    private static final int MOST_RAIN = 20, MOST_TOLD = 999, MOST_BY_HAND = 9999;
     private static final int MOST_ANSWER = 99999, MOST_DIGIT = 9;
-    private static final int MOST_SEEN = 5, MOST_EVENTS = 8, MOST_OF_BOOK = 8;
+    private static final int MOST_ROWS = 8, MOST_SEEN = 5;
 
     private static final int THROUGH = 0, LAG = 1, POND = 2, GATE = 3, SPILL = 4;
     private static final int VOLUME = 0, PEAK = 1, PEAK_HOUR = 2;
@@ -24,7 +24,7 @@ public final class StormRunoff {
 
     private static final int MOST_SIGNS = 100, MOST_CLAUSES = 12, NO_SIGN = -1, NO_FAULT = -1;
     private static final int LOOKED_AT = 100;
-    private static final int TAPES = 6, MOST_ITEMS = 60;
+    private static final int MOST_ITEMS = 60;
     private static final int EMPTY = -1, BYTES = 0, SHORTS = 1, INTS = 2, LONGS = 3, BOOLEANS = 4;
 
     private final State now = new State();
@@ -431,7 +431,7 @@ public final class StormRunoff {
     }
 
     private boolean isTape(int tape) {
-        return between(tape, 0, TAPES - 1) && tape < tapes.length;
+        return between(tape, 0, tapes.length - 1);
     }
 
     private static int exchangeNumber(int[] numbers, int hour, int v, int most) {
@@ -664,7 +664,7 @@ public final class StormRunoff {
         }
 
         boolean has(int basin) {
-            return between(basin, 0, MOST_BASINS - 1) && basin < many && basin < basins.length;
+            return basin >= 0 && basin < many && basin < basins.length;
         }
 
         void undergo(int what, int n) {
@@ -696,8 +696,8 @@ public final class StormRunoff {
 
     /** Rows of two numbers, told by hand. */
     private static final class Rows {
-        final int[] first = new int[MOST_EVENTS];
-        final int[] second = new int[MOST_EVENTS];
+        final int[] first = new int[MOST_ROWS];
+        final int[] second = new int[MOST_ROWS];
         final int limit;
         int many = 0;
 
@@ -738,8 +738,8 @@ public final class StormRunoff {
         final Site site = new Site();
         final int[] told = new int[TOLD_HOURS];
         final Rows seen = new Rows(MOST_SEEN);
-        final Rows events = new Rows(MOST_EVENTS);
-        final Rows book = new Rows(MOST_OF_BOOK);
+        final Rows events = new Rows(MOST_ROWS);
+        final Rows book = new Rows(MOST_ROWS);
 
         void become(State other) {
             site.become(other.site);

@@ -104,8 +104,10 @@ public final class EventsAndBooksTest {
         due.is("27: an empty BOOK", x.looked(), -5);
         x.book(0, 0);
         due.is("27: so it is", x.looked(), -5);
+        x.book(29, 0);
+        due.is("27: the last hour", x.looked(), -5);
         x.book(29, 1);
-        due.is("27: the second", x.looked(), 1);
+        due.is("27: the third", x.looked(), 2);
         x.book(-1, 0);
         x.basin(2);
         x.basin(3);

@@ -8,6 +8,7 @@ public final class ImageAndTapesTest {
         judge();
         imageAndUndo();
         imageOfFewerBasins();
+        imageOfRows();
         count();
         tape();
         item();
@@ -120,6 +121,33 @@ public final class ImageAndTapesTest {
         due.row("30: its ODDS", k -> x.odds(0, 3, k), 17, 21);
     }
 
+    private static void imageOfRows() {
+        StormRunoff x = new StormRunoff();
+        x.basin(1);
+        Due.rainAll(x, 3, 5);
+        x.see(0, 3);
+        x.see(1, 5);
+        x.event(1, 0);
+        x.book(0, 3);
+        x.book(1, 6);
+        x.image();
+        x.see(-1, 0);
+        x.event(-1, 0);
+        x.book(-1, 0);
+        x.see(1, 3);
+        x.see(0, 6);
+        x.event(0, 1);
+        x.book(2, 9);
+        x.book(3, 9);
+        due.row("29: ahead of undo, FITS", k -> x.fits(0, k), 0, -5);
+        due.row("29: ahead of undo, AFTER", k -> x.after(k), 10, 1, 13);
+        due.is("29: ahead of undo, LOOKED at", x.looked(), 0);
+        x.undo();
+        due.row("30: the rows that were SEEN", k -> x.fits(0, k), 1, 3);
+        due.row("30: the rows of EVENTS", k -> x.after(k), 5, 1, 5);
+        due.is("30: the rows of the BOOK", x.looked(), 1);
+    }
+
     private static void count() {
         StormRunoff x = new StormRunoff();
         due.is("31: below", x.count(-1), BAD);
@@ -199,6 +227,7 @@ public final class ImageAndTapesTest {
         due.row("34: items", k -> x.peek(0, k), 0, 0, 5, NO);
         x.tape(0, -1, 3);
         due.is("34: nothing there again", x.peek(0, 2), NO);
+        due.is("34: nothing there again", x.peek(0, 0), NO);
     }
 
     private static void shift() {
@@ -239,6 +268,12 @@ public final class ImageAndTapesTest {
         due.row("35: as they were before", k -> x.peek(0, k), 1, 1, 2, 3, 4);
         due.is("35: to ahead of itself", x.shift(0, 2, 0, 0, 3), 3);
         due.row("35: as they were before", k -> x.peek(0, k), 2, 3, 4, 3, 4);
+        x.tape(4, 3, 60);
+        x.tape(5, 3, 60);
+        x.item(4, 59, Long.MIN_VALUE + 1);
+        due.is("35: rows of 60", x.shift(4, 0, 5, 0, 60), 60);
+        due.is("35: rows of 60", x.peek(5, 59), Long.MIN_VALUE + 1);
+        due.is("35: one more", x.shift(4, 0, 5, 0, 61), PLACE);
         x.tape(2, 4, 2);
         x.tape(3, 4, 2);
         x.item(2, 1, 1);

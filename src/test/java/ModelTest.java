@@ -12,6 +12,7 @@ public final class ModelTest {
         for (int seed = 1; seed <= 600; seed++) {
             run(seed);
         }
+        shortTexts();
         due.end();
     }
 
@@ -22,6 +23,26 @@ public final class ModelTest {
         // 512 calls at most, as the document has it; a turn makes no more than 130 of them.
         for (int calls = 0; calls < 380;) {
             calls += turn("seed " + seed + ", call " + calls + ": ");
+        }
+    }
+
+    /** Each text of up to five of these signs: some of them are whole, most have a FAULT somewhere. */
+    private static void shortTexts() {
+        String signs = "bkwt;,05x";
+        for (int length = 0, texts = 1; length <= 5; length++, texts *= signs.length()) {
+            for (int k = 0; k < texts; k++) {
+                StringBuilder s = new StringBuilder();
+                for (int rest = k; s.length() < length; rest /= signs.length()) {
+                    s.append(signs.charAt(rest % signs.length()));
+                }
+                if (k % 80 == 0) {
+                    x = new StormRunoff();
+                    m = new Model();
+                }
+                Due.feedAll(x, s.toString());
+                m.text.append(s);
+                due.is("read " + s, x.read(), m.read());
+            }
         }
     }
 
@@ -86,12 +107,12 @@ public final class ModelTest {
                 due.is(at + "take " + a, x.take(a), m.take(a));
                 break;
             case 7:
-                a = some(-1, 29);
+                a = dice.nextInt(5) == 0 ? -1 : some(-1, 29);
                 b = dice.nextInt(3) == 0 ? some(0, 9999) : Math.max(0, m.of(2, a));
                 due.is(at + "see " + a + " " + b, x.see(a, b), m.see(a, b));
                 break;
             case 8:
-                a = some(-1, 29);
+                a = dice.nextInt(8) == 0 ? -1 : some(-1, 29);
                 b = dice.nextInt(5) == 0 ? some(0, 9999) : Math.max(0, m.of(2, a));
                 due.is(at + "book " + a + " " + b, x.book(a, b), m.book(a, b));
                 break;

@@ -59,6 +59,13 @@ public final class RainAndBasinsTest {
         due.row("3: ANSWER 1", k -> x.told(1, k), 1, 0, 0, 0, 0, 0, 0);
         due.row("3: ANSWER 2", k -> x.told(2, k), 7, 0, 0, 0, 0, 0, 0);
         due.row("3: how many numbers", k -> x.told(k, -1), 5, 2, 1);
+        for (int answer = 1, places = 1; places <= 5; answer *= 10, places++) {
+            StormRunoff edge = new StormRunoff();
+            edge.basin(answer);
+            edge.basin(10 * answer - 1);
+            due.is("3: places of " + answer, edge.told(0, -1), places);
+            due.is("3: places of " + (10 * answer - 1), edge.told(1, -1), places);
+        }
         StormRunoff most = new StormRunoff();
         due.is("3: the greatest", most.basin(99999), 0);
         due.is("3: the least", most.basin(1), 1);

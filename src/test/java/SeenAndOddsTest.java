@@ -91,6 +91,9 @@ public final class SeenAndOddsTest {
         StormRunoff x = new StormRunoff();
         due.row("23: no hour above 0", k -> x.mean(k), NO, NO, NO);
         x.basin(12);
+        x.rain(7, 1);
+        due.row("23: 3 by 2, an hour of 1", k -> x.mean(k), 3, 2);
+        x.rain(7, 0);
         x.rain(0, 3);
         due.row("23: 9 by 2", k -> x.mean(k), 9, 2, NO);
         due.is("23: part below", x.mean(-1), NO);
@@ -102,6 +105,9 @@ public final class SeenAndOddsTest {
         due.row("23: 30 by 5", k -> x.mean(k), 6, 1);
         x.hold(0, 3, 0);
         due.row("23: OUT, not FLOW: 12 by 3", k -> x.mean(k), 4, 1);
+        x.rain(1, 0);
+        x.rain(5, 0);
+        due.row("23: 6 by 1", k -> x.mean(k), 6, 1);
         x.hold(1, 3, 0);
         due.row("23: all held back", k -> x.mean(k), NO, NO);
     }

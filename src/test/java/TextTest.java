@@ -45,6 +45,9 @@ public final class TextTest {
         due.is("8: its NUMBER", x.told(1, 6), 0);
         due.is("8: 8 of RAIN", read(x, "w1,2,3,4,5,6,7,8"), 1);
         due.row("8: RAIN", k -> x.of(0, k), 1, 2, 3, 4, 5, 6, 7, 8);
+        StormRunoff y = new StormRunoff();
+        due.is("8: a BASIN behind more NUMBERS", read(y, "w9,9,9;b1"), 2);
+        due.row("8: its ANSWER alone", k -> y.told(0, k - 1), 1, 1, 0, 0);
         due.is("8: TOLD of one", read(x, "t5"), 1);
         due.row("8: all others 0", k -> x.of(1, k), 5, 0, 0, 0, 0, 0, 0, 0, 0, 0, 0, 0);
     }
@@ -60,6 +63,7 @@ public final class TextTest {
         x.rain(2, 7);
         due.is("8: above 20", read(x, "w1,21,3"), 0);
         due.is("8: above 20 in the last", read(x, "w1,2,999;t4"), 1);
+        due.is("8: above 20 in the first", read(x, "w21"), 0);
         due.row("8: none of them is", k -> x.of(0, k), 0, 0, 7, 0, 0, 0, 0, 0);
         due.is("8: a fourth BASIN", read(x, "b1;b2;b3;b4"), 2);
         due.is("8: three", x.basins(), 3);

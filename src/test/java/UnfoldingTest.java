@@ -91,6 +91,10 @@ public final class UnfoldingTest {
         Due.rainAll(x, 0, 0, 0, 0, 0, 0, 0, 3);
         Due.tellAll(x, 0, 0, 0, 0, 0, 0, 0, 3, 0, 6, 0, 27);
         due.is("16: RAIN in hour 7", x.backFlaw(), -6);
+        Due.rainAll(x, 1, 3);
+        Due.tellAll(x, 7, 21);
+        due.is("16: RAIN in hour 0, 1", x.backFlaw(), -6);
+        due.is("17: RAIN in hour 0, 1", x.back(0), 7);
     }
 
     private static void back() {
@@ -138,24 +142,42 @@ public final class UnfoldingTest {
         due.is("19: below", x.exchange(-1), NONE);
         x.basin(11);
         Due.rainAll(x, 5, 5, 0, 0, 0, 0, 0, 0);
-        // 1 and 3: 5 0 0 5, FLOW 5 at most; 0 and 2 makes 0 5 5, still 10; 0 and 3 makes 0 5 0 5, FLOW 5.
+        // 0 and 2 makes 0 5 5, still 10; 0 and 3 makes 0 5 0 5, as good as 1 and 3.
         due.row("19: of several the first", k -> x.exchange(k), 3, 5, NONE);
         due.row("19: RAIN is as it was", k -> x.of(0, k), 5, 5, 0, 0, 0, 0, 0, 0);
         Due.rainAll(x, 5, 0, 5, 0, 0, 0, 0, 0);
         due.row("19: none is less", k -> x.exchange(k), -5, 5);
         Due.rainAll(x, 9, 9, 1, 9, 1, 9, 1, 9);
-        // 0 and 2 makes 1 9 9 9 .., 1 and 2 makes 9 1 9 9: 18 stays, but for 9 1 9 1 9 1 9 9: none parts the nines.
+        // Five nines in eight hours: two of them stand side by side, whatever is exchanged.
         due.row("19: no room", k -> x.exchange(k), -5, 18);
         Due.rainAll(x, 0, 0, 0, 0, 0, 0, 9, 9);
-        due.row("19: s of the front, t behind", k -> x.exchange(k), 6, 9);
+        due.row("19: 0 and 6", k -> x.exchange(k), 6, 9);
         x.hold(0, 3, 2);
         due.row("19: through the RESERVOIR", k -> x.exchange(k), -5, 2);
+        StormRunoff z = new StormRunoff();
+        z.basin(1);
+        z.basin(1);
+        z.hold(1, 1, 1);
+        Due.rainAll(z, 1, 2, 3, 4, 9, 9, 3, 2);
+        // JOINED is RAIN of each hour and of the one ahead, together.
+        due.row("19: 12 by 0 and 4 (9 2 3 4 1 9 3 2)", k -> z.exchange(k), 4, 12);
+        Due.rainAll(z, 5, 2, 5, 2, 5, 9, 9, 1);
+        due.row("19: 14 by 0 and 5 (9 2 5 2 5 5 9 1), and by others behind", k -> z.exchange(k), 5, 14);
+        Due.rainAll(z, 9, 1, 9, 1, 9, 1, 9, 9);
+        due.row("19: no room for the fifth nine", k -> z.exchange(k), -5, 18);
+        Due.rainAll(z, 9, 3, 9, 3, 3, 3, 9, 9);
+        due.row("19: 4 and 6", k -> z.exchange(k), 46, 12);
+        Due.rainAll(z, 9, 3, 9, 3, 9, 9, 3, 3);
+        due.row("19: 4 and 7 ahead of 5 and 6 and of 5 and 7", k -> z.exchange(k), 47, 12);
+        Due.rainAll(z, 3, 9, 3, 9, 3, 9, 9, 3);
+        due.row("19: 6 and 7 alone", k -> z.exchange(k), 67, 12);
         StormRunoff y = new StormRunoff();
         y.basin(11111);
         Due.rainAll(y, 20, 0, 0, 0, 0, 0, 20, 20);
-        due.row("19: by s, then by t", k -> y.exchange(k), -5, 40);
+        // Within any five hours that JOINED sums up, two of the three always stand.
+        due.row("19: none is less", k -> y.exchange(k), -5, 40);
         y.basin(9);
-        // ANSWER 10 1 1 1 1 together: 20 0 0 0 0 0 20 20 has PEAK 220 in hour 7; apart by 5 hours 200 is left: no place.
+        // The two together answer 10 1 1 1 1: 200, and 20 more from one of the others.
         due.row("19: JOINED of two", k -> y.exchange(k), -5, 220);
     }
 }
