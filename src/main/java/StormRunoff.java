@@ -985,8 +985,9 @@ public final class StormRunoff {
         }
 
         private boolean readDigits(int least, int most) {
-            for (int d = 0; d < most && readNumber(1); d++) {
-                // Each turn has read one digit.
+            boolean more = true;
+            for (int d = 0; d < most && more; d++) {
+                more = readNumber(1);
             }
             return many >= least;
         }

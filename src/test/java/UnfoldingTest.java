@@ -91,10 +91,10 @@ public final class UnfoldingTest {
         Due.rainAll(x, 0, 0, 0, 0, 0, 0, 0, 3);
         Due.tellAll(x, 0, 0, 0, 0, 0, 0, 0, 3, 0, 6, 0, 27);
         due.is("16: RAIN in hour 7", x.backFlaw(), -6);
-        Due.rainAll(x, 1, 3);
-        Due.tellAll(x, 7, 21);
-        due.is("16: RAIN in hour 0, 1", x.backFlaw(), -6);
-        due.is("17: RAIN in hour 0, 1", x.back(0), 7);
+        Due.rainAll(x, 1);
+        Due.tellAll(x, 7, 3);
+        due.is("16: RAIN of 1 in hour 0", x.backFlaw(), -6);
+        due.row("17: RAIN of 1 in hour 0", k -> x.back(k), 7, 3, 0, 0, 0);
     }
 
     private static void back() {
