@@ -89,6 +89,13 @@ final class Boundaries {
         }
     }
 
+    /** One call, refused, for the numbers just beside least .. most, and for those far off, in place of the *. */
+    void outside(String call, long least, long most) {
+        for (long v : new long[] {least - 1, most + 1, Integer.MIN_VALUE, Integer.MAX_VALUE}) {
+            call(call.replace("*", "" + v));
+        }
+    }
+
     void feedAll(String text) {
         for (int k = 0; k < text.length(); k++) {
             call("feed(" + (int) text.charAt(k) + ")");
