@@ -85,6 +85,10 @@ public final class TapesBoundariesTest {
         on.sentence("Promise 30", "All is as THE IMAGE: how many BASINS.");
         on.calls("image() = 0", "basin(1)", "basin(2)", "undo() = 0", "basins() = 0", "basin(3) = 0", "told(0, 0) = 3");
         on.calls("told(0, 1) = 0", "image() = 1", "undo() = 1", "basins() = 1");
+        // A BASIN that comes in place of one that is gone has nothing of it.
+        on.calls("basin(98765) = 1", "hold(1, 3, 9) = 0", "undo() = 1", "told(1, -1) = NONE", "basin(12) = 1");
+        on.calls("told(1, -1) = 2", "hold(1, 0, 0) = 0");
+        on.row("told(1, *)", 1, 2, 0, 0, 0, 0, 0, 0, -1);
         on.rich();
         on.calls("undo() = 1", "of(0, 0) = 3", "of(0, 3) = 0", "of(1, 0) = 0", "of(1, 1) = 2", "told(0, 0) = 5");
         on.calls("told(0, 5) = 0", "told(0, 6) = 0", "told(1, 0) = NONE", "count(0) = 1", "count(1) = 1", "count(2) = 1");
