@@ -858,12 +858,11 @@ public final class StormRunoff {
         int least = 0;
 
         void seek(Basin basin, int[] told) {
-            least = Integer.MAX_VALUE;
             for (int r = 0; r < NEAREST_RAINS; r++) {
                 spread(r);
                 basin.flowBy(rain, flow);
                 int squares = squaresFrom(told);
-                if (squares < least) {
+                if (r == 0 || squares < least) {
                     least = squares;
                     copyNumbers(rain, best);
                 }

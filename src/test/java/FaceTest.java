@@ -1,13 +1,20 @@
+import java.io.IOException;
 import java.lang.reflect.Constructor;
 import java.lang.reflect.Field;
 import java.lang.reflect.Method;
 import java.lang.reflect.Modifier;
+import java.nio.file.Files;
+import java.nio.file.Path;
+import java.util.ArrayList;
 import java.util.Arrays;
+import java.util.List;
 import java.util.Set;
 import java.util.TreeSet;
+import java.util.regex.Matcher;
+import java.util.regex.Pattern;
 import java.util.stream.Collectors;
 
-/** The public face of the document, and of LANGUAGE.md what the compiled classes show. */
+/** The public face of the document, and of LANGUAGE.md what the compiled classes show. It is run from the project's root. */
 public final class FaceTest {
     private static final Due due = new Due("FaceTest");
     private static final String[] FACE = {
@@ -20,8 +27,9 @@ public final class FaceTest {
         "int item(int,int,long)", "long peek(int,int)", "int shift(int,int,int,int,int)",
     };
 
-    public static void main(String[] args) {
+    public static void main(String[] args) throws IOException {
         Class<?> c = StormRunoff.class;
+        document();
         constants();
         due.holds("the class is public and final", c.getModifiers() == (Modifier.PUBLIC | Modifier.FINAL));
         due.holds("it has no package", c.getPackageName().isEmpty());
@@ -57,6 +65,43 @@ public final class FaceTest {
             inside(k, names);
         }
         due.end();
+    }
+
+    /** The methods stand in the program as in the document, each with its line, under the words that stand ahead of it. */
+    private static void document() throws IOException {
+        String document = Files.readString(Path.of("../shared/DOC.md"));
+        List<String> asked = allOf("(?m)^    public (\\w+ \\w+\\(.*\\));$", document);
+        List<String> built = allOf("(?m)^    public (\\w+ \\w+\\(.*\\)) \\{$", program());
+        due.is("methods of the document", asked.size(), FACE.length);
+        due.holds("the program has the document's methods in their order: " + built, built.equals(asked));
+        for (int k = 0; k < asked.size() && k < FACE.length; k++) {
+            String unnamed = asked.get(k).replaceAll("(int|long) \\w+([,)])", "$1$2").replace(" ", "");
+            due.holds(FACE[k] + " is the document's", unnamed.equals(FACE[k].replace(" ", "")));
+        }
+        for (String constants : allOf("(?m)^    (public static final .*;)$", document)) {
+            due.holds("the program has the line " + constants, program().contains("    " + constants + "\n"));
+        }
+        Matcher ahead = Pattern.compile("Ahead of the calls `(\\w+)`.* the interface says: ---- (.*)\\.").matcher(document);
+        int sections = 0;
+        while (ahead.find()) {
+            sections++;
+            due.holds("ahead of " + ahead.group(1) + " the program says " + ahead.group(2), Pattern.compile(
+                    "    // ---- " + ahead.group(2) + "\n\n    public \\w+ " + ahead.group(1) + "\\(").matcher(program()).find());
+        }
+        due.is("sections of the interface", sections, 6);
+    }
+
+    private static String program() throws IOException {
+        return Files.readString(Path.of("src/main/java/StormRunoff.java"));
+    }
+
+    private static List<String> allOf(String pattern, String text) {
+        List<String> all = new ArrayList<>();
+        Matcher m = Pattern.compile(pattern).matcher(text);
+        while (m.find()) {
+            all.add(m.group(1));
+        }
+        return all;
     }
 
     private static void constants() {
